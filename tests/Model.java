@@ -113,10 +113,11 @@ final class Model {
 
     // ---- coming
 
-    private static TreeSet<Integer> round(int[] thing) {
-        TreeSet<Integer> round = new TreeSet<>();
-        for (int d = thing[3]; d <= 500; d += thing[2]) {
-            round.add(d);
+    /** The round, by days from 10 ahead of day 0 on: what is ahead of day 0 is in none. */
+    private static boolean[] round(int[] thing) {
+        boolean[] round = new boolean[500];
+        for (int d = thing[3]; d + 10 < 500; d += thing[2]) {
+            round[d + 10] = true;
         }
         return round;
     }
@@ -127,20 +128,21 @@ final class Model {
 
     /** On which days of the year the thing comes. */
     private static boolean[] comings(int[] thing, int holidays) {
-        TreeSet<Integer> round = round(thing);
+        boolean[] round = round(thing);
         boolean[] comes = new boolean[400];
         for (int d = 0; d < 400; d++) {
             boolean lasting = false;
             for (int back = 0; back <= thing[1]; back++) {
-                lasting |= round.contains(d - back);
+                lasting |= round[d - back + 10];
             }
-            boolean putOff = round.contains(d);
+            boolean in = round[d + 10];
+            boolean putOff = in;
             for (int back = 1; back <= 6 && d - back >= 0 && isHoliday(d - back, holidays); back++) {
-                putOff |= round.contains(d - back);
+                putOff |= round[d - back + 10];
             }
+            boolean free = !isHoliday(d, holidays);
             boolean[] byKind = {
-                round.contains(d), lasting, putOff && !isHoliday(d, holidays), lasting || round.contains(d + 1),
-                round.contains(d) && !isHoliday(d, holidays), round.contains(d) || d % 30 == thing[1]
+                in, lasting, putOff && free, lasting || round[d + 11], in && free, in || d % 30 == thing[1]
             };
             comes[d] = byKind[thing[0]];
         }
@@ -378,13 +380,13 @@ final class Model {
         if (!isThing(t)) {
             return BAD;
         }
+        boolean[][] table = table(things, holidays);
         for (int s = 0; s <= 59; s++) {
             boolean[] comes = comings(shifted(things.get(t), s), holidays);
             boolean free = true;
-            for (int other = 0; other < things.size(); other++) {
-                boolean[] others = comings(things.get(other), holidays);
-                for (int d = 0; d < 400; d++) {
-                    free &= other == t || !comes[d] || !others[d];
+            for (int d = 0; d < 400; d++) {
+                for (int other = 0; other < things.size(); other++) {
+                    free &= other == t || !comes[d] || !table[other][d];
                 }
             }
             if (free) {

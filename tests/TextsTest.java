@@ -8,6 +8,7 @@ public final class TextsTest {
         textEmptiesTheTape();
         thereAreSixTexts();
         faultsOfTokens();
+        wordsMustBeWhole();
         faultsOfTheGrammar();
         faultsOfTheEnd();
         faultsOfWhatIsOpen();
@@ -104,6 +105,25 @@ public final class TextsTest {
         fault("costs 1 orday;", 8);
         fault("costs notday;", 6);
         fault("costs not1;crowds 1 or-1;minds(1)and(1);", -1);
+    }
+
+    private static void wordsMustBeWhole() {
+        for (String word : new String[] {"day", "thing", "many", "period", "rest", "number"}) {
+            fault("costs " + word + TAIL, -1);
+            for (int i = 0; i < word.length(); i++) {
+                fault("costs " + word.substring(0, i) + "q" + word.substring(i + 1) + TAIL, 6);
+            }
+        }
+        fault("qosts 1;", 0);
+        fault("costs 1;qrowds 1;", 8);
+        fault("costs 1;crowds 1;qinds 1;", 17);
+        fault("costs 1;crowds 1;mindq 1;", 17);
+        fault("costs 1 oq 1;", 8);
+        fault("costs 1 qr 1;", 8);
+        fault("costs 1 qnd 1;", 8);
+        fault("costs 1 anq 1;", 8);
+        fault("costs qot 1;", 6);
+        fault("costs noq 1;", 6);
     }
 
     private static void faultsOfTheGrammar() {
@@ -361,6 +381,12 @@ public final class TextsTest {
             blanks.append(' ');
         }
         CHECK.due("ends too early on a full tape", Check.read(x, blanks.toString()), -260);
+        blanks.replace(157, 160, "day");
+        CHECK.due("behind a word that ends the tape", Check.read(x, blanks.toString()), -260);
+        blanks.replace(156, 160, "9999");
+        CHECK.due("behind a number that ends the tape", Check.read(x, blanks.toString()), -260);
+        blanks.replace(155, 160, "99999");
+        CHECK.due("a number too long that ends the tape", Check.read(x, blanks.toString()), -255);
     }
 
     private static void forceChoosesTheRule() {

@@ -774,13 +774,14 @@ public final class EveryNinth {
 
         boolean takeIn(Thing thing) {
             int period = thing.period;
-            if (period <= 0 || step <= 0) {
+            long divisor = greatestDivisor(step, period);
+            if (period <= 0 || divisor <= 0) {
                 return false;
             }
             for (int times = 0; times < period; times++) {
                 long day = first + times * step;
                 if ((day - thing.begin) % period == 0) {
-                    step = step / greatestDivisor(step, period) * period;
+                    step = step / divisor * period;
                     first = notAhead(day, thing.begin);
                     return true;
                 }
