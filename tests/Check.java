@@ -34,6 +34,15 @@ final class Check {
         }
     }
 
+    /** An object with plain things of these periods and begins (as of thing()). */
+    static EveryNinth with(int... whats) {
+        EveryNinth x = new EveryNinth();
+        for (int what : whats) {
+            x.thing(0, 0, what);
+        }
+        return x;
+    }
+
     /** Feeds a whole text, byte by byte. */
     static void feedAll(EveryNinth x, String text) {
         for (int i = 0; i < text.length(); i++) {

@@ -19,27 +19,19 @@ public final class MeetingTest {
         CHECK.end();
     }
 
-    private static EveryNinth with(int... whats) {
-        EveryNinth x = new EveryNinth();
-        for (int what : whats) {
-            x.thing(0, 0, what);
-        }
-        return x;
-    }
-
     private static void ofNoThings() {
         EveryNinth x = new EveryNinth();
         CHECK.due("meet(0)", x.meet(0), 0);
         CHECK.due("every(0)", x.every(0), 1);
         CHECK.due("why(0)", x.why(0), -1);
-        EveryNinth y = with(200, 201);
+        EveryNinth y = Check.with(200, 201);
         CHECK.due("meet(0) of none of two", y.meet(0), 0);
         CHECK.due("every(0) of none of two", y.every(0), 1);
         CHECK.due("why(0) of none of two", y.why(0), -1);
     }
 
     private static void ofOneThing() {
-        EveryNinth x = with(905, 6059);
+        EveryNinth x = Check.with(905, 6059);
         CHECK.due("meet(1)", x.meet(1), 5);
         CHECK.due("every(1)", x.every(1), 9);
         CHECK.due("why(1)", x.why(1), -1);
@@ -49,30 +41,30 @@ public final class MeetingTest {
     }
 
     private static void ofSome() {
-        EveryNinth x = with(905, 1403, 700);
+        EveryNinth x = Check.with(905, 1403, 700);
         CHECK.due("meet(3)", x.meet(3), 59);
         CHECK.due("every(3)", x.every(3), 126);
         CHECK.due("meet(5)", x.meet(5), 14);
         CHECK.due("every(5)", x.every(5), 63);
         CHECK.due("meet(6)", x.meet(6), NO);
-        EveryNinth y = with(400, 602, 1008);
+        EveryNinth y = Check.with(400, 602, 1008);
         CHECK.due("8, 20, 32 .. and 8, 18, 28 ..", y.meet(7), 8);
         CHECK.due("every(7)", y.every(7), 60);
     }
 
     private static void roundsThatBeginLate() {
-        EveryNinth x = with(100, 159);
+        EveryNinth x = Check.with(100, 159);
         CHECK.due("meet(3)", x.meet(3), 59);
         CHECK.due("every(3)", x.every(3), 1);
-        EveryNinth y = with(6000, 159);
+        EveryNinth y = Check.with(6000, 159);
         CHECK.due("the first ahead of the other's begin", y.meet(3), 60);
-        EveryNinth z = with(3059, 2900 + 1);
+        EveryNinth z = Check.with(3059, 2900 + 1);
         // 59 = 1 + 2 * 29
         CHECK.due("on the begin itself", z.meet(3), 59);
-        EveryNinth w = with(701, 350 + 7);
+        EveryNinth w = Check.with(701, 350 + 7);
         CHECK.due("57 is 1 modulo 7 and begins the other", w.meet(3), 57);
         CHECK.due("every(3)", w.every(3), 21);
-        EveryNinth v = with(258, 100, 159);
+        EveryNinth v = Check.with(258, 100, 159);
         CHECK.due("60 is the first even day behind 59", v.meet(7), 60);
         CHECK.due("every(7)", v.every(7), 2);
     }
@@ -125,7 +117,7 @@ public final class MeetingTest {
     }
 
     private static void thoseThatNeverMeet() {
-        EveryNinth x = with(200, 400, 601, 903, 1000);
+        EveryNinth x = Check.with(200, 400, 601, 903, 1000);
         // 2: odd days; 0, 1, 4: even ones; 3: 3, 12, ..
         CHECK.due("why(31)", x.why(31), 2);
         CHECK.due("why(30)", x.why(30), 12);
@@ -137,21 +129,21 @@ public final class MeetingTest {
         CHECK.due("why(4)", x.why(4), -1);
         CHECK.due("meet(31)", x.meet(31), NO);
         CHECK.due("every(31)", x.every(31), NO);
-        EveryNinth y = with(100, 100, 100, 100, 200, 201);
+        EveryNinth y = Check.with(100, 100, 100, 100, 200, 201);
         CHECK.due("the last two", y.why(63), 45);
         CHECK.due("the last two", y.why(48), 45);
         CHECK.due("meet(31)", y.meet(31), 0);
     }
 
     private static void setsThatAreNone() {
-        EveryNinth x = with(100, 100);
+        EveryNinth x = Check.with(100, 100);
         int[] bad = {4, 5, 7, 8, 32, 64, 1 << 30, -1, -4, Integer.MIN_VALUE, Integer.MIN_VALUE + 1, Integer.MAX_VALUE};
         for (int set : bad) {
             CHECK.due("meet(" + set + ")", x.meet(set), NO);
             CHECK.due("every(" + set + ")", x.every(set), NO);
             CHECK.due("why(" + set + ")", x.why(set), -2);
         }
-        EveryNinth full = with(100, 100, 100, 100, 100, 100);
+        EveryNinth full = Check.with(100, 100, 100, 100, 100, 100);
         CHECK.due("meet(63)", full.meet(63), 0);
         CHECK.due("meet(64)", full.meet(64), NO);
         CHECK.due("every(64)", full.every(64), NO);
@@ -214,7 +206,7 @@ public final class MeetingTest {
         CHECK.due("full(2)", x.full(2), NO);
         CHECK.due("full(-1)", x.full(-1), NO);
         CHECK.due("full(MIN)", x.full(Integer.MIN_VALUE), NO);
-        EveryNinth y = with(5900, 5300, 4700, 4300, 4100, 3700);
+        EveryNinth y = Check.with(5900, 5300, 4700, 4300, 4100, 3700);
         long below = 59L * 53 * 47 * 43 * 41 * 37;
         CHECK.due("six primes: full(1)", y.full(1), below);
         long above = below / 59 + below / 53 + below / 47 + below / 43 + below / 41 + below / 37;

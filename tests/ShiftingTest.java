@@ -15,29 +15,21 @@ public final class ShiftingTest {
         CHECK.end();
     }
 
-    private static EveryNinth with(int... whats) {
-        EveryNinth x = new EveryNinth();
-        for (int what : whats) {
-            x.thing(0, 0, what);
-        }
-        return x;
-    }
-
     private static void shiftFindsRoom() {
-        CHECK.due("alone", with(100).shift(0), 0);
-        CHECK.due("two even ones", with(200, 200).shift(0), 1);
-        CHECK.due("odd and even", with(200, 201).shift(1), 0);
-        CHECK.due("daily beside another one", with(100, 6000).shift(0), -1);
-        CHECK.due("beside a daily one", with(6000, 100).shift(0), -1);
-        CHECK.due("9 and 14 share days whatever the begin", with(905, 1403).shift(0), -1);
-        EveryNinth x = with(400, 400, 401, 402);
+        CHECK.due("alone", Check.with(100).shift(0), 0);
+        CHECK.due("two even ones", Check.with(200, 200).shift(0), 1);
+        CHECK.due("odd and even", Check.with(200, 201).shift(1), 0);
+        CHECK.due("daily beside another one", Check.with(100, 6000).shift(0), -1);
+        CHECK.due("beside a daily one", Check.with(6000, 100).shift(0), -1);
+        CHECK.due("9 and 14 share days whatever the begin", Check.with(905, 1403).shift(0), -1);
+        EveryNinth x = Check.with(400, 400, 401, 402);
         CHECK.due("the fourth quarter", x.shift(0), 3);
         CHECK.due("of another one", x.shift(1), 3);
         CHECK.due("that is alone already", x.shift(2), 0);
         // 58 days on: 59 and 2 is 61, modulo 60 that is 1
-        EveryNinth late = with(6059, 6059, 6000);
+        EveryNinth late = Check.with(6059, 6059, 6000);
         CHECK.due("past 59 it begins at 0 again", late.shift(0), 2);
-        EveryNinth last = with(6001, 100);
+        EveryNinth last = Check.with(6001, 100);
         last.set(2, 1, 60);
         last.set(3, 1, 1);
         CHECK.due("one day is enough", last.shift(0), 1);
@@ -84,28 +76,28 @@ public final class ShiftingTest {
     }
 
     private static void shiftRefuses() {
-        EveryNinth x = with(100, 100);
+        EveryNinth x = Check.with(100, 100);
         for (int thing : new int[] {-1, 2, 6, Integer.MIN_VALUE, Integer.MAX_VALUE}) {
             CHECK.due("shift(" + thing + ")", x.shift(thing), -2);
         }
     }
 
     private static void joinFindsADay() {
-        EveryNinth x = with(200, 201, 6000, 6059, 5900);
+        EveryNinth x = Check.with(200, 201, 6000, 6059, 5900);
         CHECK.due("join(0, 1)", x.join(0, 1), 1);
         CHECK.due("join(1, 0)", x.join(1, 0), 1);
         CHECK.due("join(0, 2)", x.join(0, 2), 0);
         CHECK.due("join(2, 3)", x.join(2, 3), 59);
         CHECK.due("join(3, 2): modulo 60", x.join(3, 2), 1);
         CHECK.due("join(4, 3): far away", x.join(4, 3), 0);
-        EveryNinth y = with(4510, 3000, 1203);
+        EveryNinth y = Check.with(4510, 3000, 1203);
         // 45 and 30 share 15: 10 + 5
         CHECK.due("join(0, 1)", y.join(0, 1), 5);
         CHECK.due("join(1, 0)", y.join(1, 0), 10);
         // 45 and 12 share 3: 10 is 1, 3 is 0
         CHECK.due("join(0, 2)", y.join(0, 2), 2);
         CHECK.due("join(2, 0)", y.join(2, 0), 1);
-        EveryNinth z = with(5050, 2501);
+        EveryNinth z = Check.with(5050, 2501);
         // 50 and 25 share 25: from 50 it is 1 day to 51; past 59 the begin is 0, 1
         CHECK.due("join(0, 1)", z.join(0, 1), 1);
         CHECK.due("join(1, 0): 1 and 24 is 25", z.join(1, 0), 24);
@@ -120,7 +112,7 @@ public final class ShiftingTest {
     }
 
     private static void joinRefuses() {
-        EveryNinth x = with(100, 100);
+        EveryNinth x = Check.with(100, 100);
         int[][] bad = {{0, 0}, {1, 1}, {0, 2}, {2, 0}, {-1, 0}, {0, -1}, {2, 2}, {Integer.MIN_VALUE, 0},
             {0, Integer.MAX_VALUE}};
         for (int[] b : bad) {
@@ -129,18 +121,18 @@ public final class ShiftingTest {
     }
 
     private static void goodShiftIsCheapest() {
-        EveryNinth x = with(2000, 2000);
+        EveryNinth x = Check.with(2000, 2000);
         Check.read(x, "costs 1;crowds 10;minds 0;");
         x.force(1);
         // 40 days alone cost 1 each; a begin from 20 on comes once less, from 40 on twice
         CHECK.due("goodShift(0, 0)", x.goodShift(0, 0), 41);
         CHECK.due("goodShift(0, 1)", x.goodShift(0, 1), 38);
-        EveryNinth like = with(2000, 2000);
+        EveryNinth like = Check.with(2000, 2000);
         Check.read(like, "costs 0;crowds 10;minds 0;");
         like.force(1);
         CHECK.due("of like ones the fewest", like.goodShift(1, 0), 1);
         CHECK.due("what they cost", like.goodShift(1, 1), 0);
-        EveryNinth round = with(6010, 6011);
+        EveryNinth round = Check.with(6010, 6011);
         Check.read(round, "costs day < 1;crowds 0;minds 0;");
         round.force(1);
         CHECK.due("at 0 it costs 1, so it stays", round.goodShift(0, 0), 0);
@@ -149,7 +141,7 @@ public final class ShiftingTest {
     }
 
     private static void goodShiftMinds() {
-        EveryNinth x = with(2000, 2000);
+        EveryNinth x = Check.with(2000, 2000);
         // by the rule: 20 days of 6 are 120; shifted by s it is 40 and s
         CHECK.due("by the rule", x.goodShift(0, 0), 1);
         CHECK.due("by the rule", x.goodShift(0, 1), 41);
@@ -180,7 +172,7 @@ public final class ShiftingTest {
     }
 
     private static void goodShiftRefuses() {
-        EveryNinth x = with(100);
+        EveryNinth x = Check.with(100);
         int[][] bad = {{1, 0}, {-1, 0}, {6, 1}, {0, 2}, {0, -1}, {Integer.MIN_VALUE, 0}, {0, Integer.MAX_VALUE}};
         for (int[] b : bad) {
             CHECK.due("goodShift(" + b[0] + ", " + b[1] + ")", x.goodShift(b[0], b[1]), -2);
@@ -188,7 +180,7 @@ public final class ShiftingTest {
     }
 
     private static void nothingTrulyShifts() {
-        EveryNinth x = with(200, 201, 902);
+        EveryNinth x = Check.with(200, 201, 902);
         x.set(0, 0, 3);
         int costs = x.year(0);
         x.shift(0);
