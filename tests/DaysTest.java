@@ -153,8 +153,8 @@ public final class DaysTest {
     }
 
     private static void holidaysAreTold() {
-        EveryNinth x = new EveryNinth();
         for (int d = 0; d < 7; d++) {
+            EveryNinth x = new EveryNinth();
             x.set(0, 0, 1 << d);
             for (int day = 0; day < 400; day++) {
                 CHECK.due("day(" + day + ", 2)", x.day(day, 2), day % 7 == d ? 1 : 0);

@@ -246,16 +246,15 @@ public final class DiariesTest {
             x.set(0, 0, k[1]);
             CHECK.due("drawn(" + k[0] + ")", drawn, x.year(0));
         }
-        EveryNinth many = new EveryNinth();
-        many.thing(4, 0, 100);
-        many.thing(2, 0, 905);
         for (int i = 0; i < 400; i++) {
+            EveryNinth many = new EveryNinth();
+            many.thing(4, 0, 100);
+            many.thing(2, 0, 905);
             int seed = i < 200 ? i : i * 98765431;
             long z = (seed * 1103515245L + 12345L) & 0xFFFFFFFFL;
             int drawn = many.drawn(seed);
             many.set(0, 0, (int) (z / 512 % 128));
             CHECK.due("drawn(" + seed + ")", drawn, many.year(0));
-            many.set(0, 0, 0);
         }
         EveryNinth none = new EveryNinth();
         CHECK.due("drawn() of no things", none.drawn(Integer.MIN_VALUE), 0);

@@ -91,10 +91,14 @@ public final class FaceTest {
         Class<?>[] inside = EveryNinth.class.getDeclaredClasses();
         CHECK.holds("at most twelve classes", inside.length + 1 <= 12);
         for (Class<?> one : inside) {
-            CHECK.holds("private and static: " + one,
-                    Modifier.isPrivate(one.getModifiers()) && Modifier.isStatic(one.getModifiers()));
+            int modifiers = one.getModifiers();
+            CHECK.holds("private or package-visible, and static: " + one, Modifier.isStatic(modifiers)
+                    && !Modifier.isPublic(modifiers) && !Modifier.isProtected(modifiers));
             for (Method method : one.getDeclaredMethods()) {
-                CHECK.holds("no public name: " + method, !isPublicName(method.getName()));
+                CHECK.holds("private, so no public name: " + method,
+                        !Modifier.isPrivate(method.getModifiers()) || !isPublicName(method.getName()));
+                CHECK.holds("none of its own: " + method,
+                        one.isRecord() || !Set.of("equals", "hashCode", "toString").contains(method.getName()));
                 CHECK.holds("seven parameters: " + method, method.getParameterCount() <= 7);
             }
             int fields = 0;
@@ -112,7 +116,7 @@ public final class FaceTest {
         String[] banned = {
             "\\b(throw|throws|try|catch|finally|synchronized|assert|package|native|volatile|transient)\\b", "->", "::",
             "\\b(protected|abstract class|Object|System\\.(?!arraycopy)\\w+|Thread|Random|File|Class|Exception)\\b",
-            "\"\"\\s*\\+|\\+\\s*\"\"", "\\w+Exact\\b", "\\b(equals|hashCode|toString)\\s*\\("
+            "\"\"\\s*\\+|\\+\\s*\"\"", "\\w+Exact\\b"
         };
         for (String pattern : banned) {
             Matcher matcher = Pattern.compile(pattern).matcher(bare);

@@ -1,67 +1,67 @@
 import java.lang.management.ManagementFactory;
 
-/** All calls of a run live in one room: no call may make an object, and a new object stays small. */
+/**
+ * All calls of a run live in one room of some 600,000 objects and 7.3 million fields and elements:
+ * no call, made 512 times, may come near it. Bytes are what can be measured; a field takes four.
+ */
 public final class RoomTest {
+    private static final long CALLS = 512;
+    private static final long ROOM = 4 * 7_300_000L;
+    private static final String[] DEAREST = {
+        "set(0, 0, 65)", "told(0, 1)", "feed(32)", "text()", "force(1)", "day(14, 1)", "when(0, 7)",
+        "often(1, 400)", "year(0)", "year(3)", "year(6)", "year(8)", "meet(3)", "every(3)", "why(3)", "full(0)",
+        "shift(0)", "join(0, 1)", "goodShift(0, 0)", "film(0, 0, 20)", "diary(0, 0, 0)", "diary(0, 1, 1)",
+        "rounds(0, 0)", "rounds(0, 1)", "drawn(7)", "chance(7, 20, 0)", "sheet(1, 1, 40)", "cell(1, 0, 5)",
+        "copy(1, 0, 0, 0, 5)", "things(1, 1, 0, 6)", "taken(0, 0)", "image()", "back()", "count(0)"
+    };
+
     private static final Check CHECK = new Check("RoomTest");
     private static final com.sun.management.ThreadMXBean THREADS =
             (com.sun.management.ThreadMXBean) ManagementFactory.getThreadMXBean();
 
     public static void main(String[] args) {
-        EveryNinth x = new EveryNinth();
-        allCalls(x);
-        measured(x);
-        CHECK.holds("all calls together make nothing (bytes: " + measured(x) + ")", measured(x) < 4096);
-        long before = THREADS.getCurrentThreadAllocatedBytes();
+        aNewObject();
+        for (String call : DEAREST) {
+            aCall(call);
+        }
+        aTextOfAFullTape();
+        CHECK.end();
+    }
+
+    private static long bytes() {
+        return THREADS.getCurrentThreadAllocatedBytes();
+    }
+
+    private static void aNewObject() {
+        long before = bytes();
         EveryNinth[] many = new EveryNinth[100];
         for (int i = 0; i < many.length; i++) {
             many[i] = new EveryNinth();
         }
-        long each = (THREADS.getCurrentThreadAllocatedBytes() - before) / many.length;
-        CHECK.holds("a new object takes " + each + " bytes", each < 20_000);
-        CHECK.end();
+        long each = (bytes() - before) / many.length;
+        CHECK.holds("a new object takes " + each + " bytes", each < ROOM / 10);
     }
 
-    private static long measured(EveryNinth x) {
-        long before = THREADS.getCurrentThreadAllocatedBytes();
-        allCalls(x);
-        return THREADS.getCurrentThreadAllocatedBytes() - before;
+    /** What Run itself makes is counted with the call, which does no harm: it is little. */
+    private static void aCall(String call) {
+        Run run = new Run(CHECK, "All calls of one run live in ONE room")
+                .make("thing(2, 1, 905)", "thing(3, 1, 1405)", "set(0, 0, 65)", "image()", "sheet(1, 1, 18)")
+                .rule("costs day + (1 or many) * 2 ; crowds not many ; minds - rest ;")
+                .feed("costs 1;crowds 1;minds 1")
+                .lay(0, 1, 1, 2, 4, 8, 16);
+        run.answer("taken(0, 0)");
+        long before = bytes();
+        run.answer(call);
+        long took = (bytes() - before) * CALLS;
+        CHECK.holds(CALLS + " times " + call + " takes " + took + " bytes", took < ROOM);
     }
 
-    private static void allCalls(EveryNinth x) {
-        x.image();
-        x.thing(2, 1, 905);
-        x.thing(3, 1, 1405);
-        x.set(0, 0, 65);
-        x.told(0, 1);
-        Check.feedAll(x, "costs day + (1 or many) * 2 ; crowds not many ; minds - rest ;");
+    private static void aTextOfAFullTape() {
+        EveryNinth x = new EveryNinth();
+        Check.feedAll(x, "costs 1" + "+1".repeat(67) + ";crowds 0;minds 0;");
+        long before = bytes();
         x.text();
-        x.force(1);
-        x.day(14, 1);
-        x.when(0, 7);
-        x.often(1, 400);
-        for (int what = 0; what < 9; what++) {
-            x.year(what);
-        }
-        x.meet(3);
-        x.every(3);
-        x.why(3);
-        x.full(0);
-        x.shift(0);
-        x.join(0, 1);
-        x.goodShift(0, 0);
-        x.film(0, 0, 20);
-        x.diary(0, 0, 0);
-        x.diary(0, 1, 1);
-        x.rounds(0, 0);
-        x.rounds(0, 1);
-        x.drawn(7);
-        x.chance(7, 20, 0);
-        x.sheet(1, 1, 40);
-        x.cell(1, 0, 5);
-        x.copy(1, 0, 0, 0, 5);
-        x.things(1, 1, 0, 6);
-        x.taken(0, 0);
-        x.back();
-        x.count(0);
+        long took = (bytes() - before) * 5;
+        CHECK.holds("the texts of a run take " + took + " bytes", took < ROOM);
     }
 }

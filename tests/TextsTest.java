@@ -371,22 +371,24 @@ public final class TextsTest {
         while (blanks.length() < 160) {
             blanks.append(' ');
         }
-        CHECK.due("blanks up to the end", Check.read(x, blanks.toString()), 2);
+        fullTape("blanks up to the end", blanks.toString(), 1);
         blanks.setCharAt(159, ';');
-        CHECK.due("a fault on the last byte", Check.read(x, blanks.toString()), -259);
-        while (blanks.length() > 6) {
-            blanks.setLength(blanks.length() - 1);
-        }
+        fullTape("a fault on the last byte", blanks.toString(), -259);
+        blanks.setLength(6);
         while (blanks.length() < 160) {
             blanks.append(' ');
         }
-        CHECK.due("ends too early on a full tape", Check.read(x, blanks.toString()), -260);
+        fullTape("ends too early on a full tape", blanks.toString(), -260);
         blanks.replace(157, 160, "day");
-        CHECK.due("behind a word that ends the tape", Check.read(x, blanks.toString()), -260);
+        fullTape("behind a word that ends the tape", blanks.toString(), -260);
         blanks.replace(156, 160, "9999");
-        CHECK.due("behind a number that ends the tape", Check.read(x, blanks.toString()), -260);
+        fullTape("behind a number that ends the tape", blanks.toString(), -260);
         blanks.replace(155, 160, "99999");
-        CHECK.due("a number too long that ends the tape", Check.read(x, blanks.toString()), -255);
+        fullTape("a number too long that ends the tape", blanks.toString(), -255);
+    }
+
+    private static void fullTape(String what, String text, int want) {
+        CHECK.due(what, Check.read(new EveryNinth(), text), want);
     }
 
     private static void forceChoosesTheRule() {
