@@ -24,6 +24,7 @@ public final class BoundsOfDiariesTest {
         diaryRefuses();
         roundsRefuse();
         filmOfDays();
+        filmFromDayZero();
         filmOfFewer();
         filmRefuses();
         drawnByASeed();
@@ -276,6 +277,18 @@ public final class BoundsOfDiariesTest {
                 .items(0, 1, 1, 0, 1, 2, 3, 4, 5, 6, 7, 8, 9, 10, 11, 12, 13, 14, 15, 16, 17, 18, 19);
     }
 
+    private static void filmFromDayZero() {
+        run("film: the first DAYS of THE YEAR: a DOUBLE comes ahead of DAY 0 as little as any")
+                .make("thing(3, 0, 2000)", "thing(3, 0, 2001)")
+                .due("film(0, 0, 4)", 4)
+                .items(0, 1, 1, 0, 19, 20, 39)
+                .due("film(0, 1, 4)", 4)
+                .items(0, 1, 1, 0, 1, 20, 21)
+                .due("when(0, 0)", 0)
+                .due("often(0, 1)", 1)
+                .due("often(0, 20)", 2);
+    }
+
     private static void filmOfFewer() {
         String sentence = "film: (fewer, if there are no more)";
         run(sentence).make("thing(0, 0, 6039)").due("film(0, 0, 20)", 7)
@@ -312,8 +325,9 @@ public final class BoundsOfDiariesTest {
 
     private static void drawnByNegativeNumbers() {
         String sentence = "DRAWN: z = SEED * 1103515245 + 12345 (an int): (z >>> 9) % 128";
+        // by the last six z is 0 or 511 modulo 512: one more or less would draw other holidays
         int[] seeds = {1, 2, -1, -2, 3, 7, 1000, -1000, 123456789, Integer.MAX_VALUE, Integer.MIN_VALUE,
-            Integer.MIN_VALUE + 1};
+            Integer.MIN_VALUE + 1, 2071770755, -941059965, 2088216195, -1933391074, -1999172834, -1916945634};
         for (int seed : seeds) {
             long z = (seed * 1103515245L + 12345L) & 0xFFFFFFFFL;
             long holidays = z / 512 % 128;

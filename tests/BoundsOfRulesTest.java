@@ -102,6 +102,16 @@ public final class BoundsOfRulesTest {
         tells(sentence, "4<3", 0);
         tells(sentence, "3=3", 1);
         tells(sentence, "3=4", 0);
+        tells(sentence + ", not less than 0", "(0 or 0)+5", 5);
+        tells(sentence + ", not less than 0", "(0 and 1)+5", 5);
+        tells(sentence + ", not less than 0", "(not 1)+5", 5);
+        tells(sentence + ", not less than 0", "(2<1)+5", 5);
+        tells(sentence + ", not less than 0", "(2=1)+5", 5);
+        tells(sentence + ", not more than 1", "(2 or 2)+5", 6);
+        tells(sentence + ", not more than 1", "(2 and 2)+5", 6);
+        tells(sentence + ", not more than 1", "(not 0)+5", 6);
+        tells(sentence + ", not more than 1", "(1<2)+5", 6);
+        tells(sentence + ", not more than 1", "(2=2)+5", 6);
         tells(sentence + ": an E without them stays", "7", 7);
         tells(sentence + ": an E without them stays", "(7)", 7);
     }

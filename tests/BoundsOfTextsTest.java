@@ -26,12 +26,14 @@ public final class BoundsOfTextsTest {
         faultAtTheTextsSize();
         faultIsTheFirst();
         faultOfWords();
+        aWordWithOneLetterChanged();
         faultOfNumbers();
         fiveBracketsOpen();
         fiveNotsOpen();
         fiveMinusesOpen();
         fiveOfAllOpen();
         whatTheyBelongToEnds();
+        theDeepestText();
         sixTexts();
         fullAheadOfAll();
         aFaultEmptiesTheTape();
@@ -88,6 +90,11 @@ public final class BoundsOfTextsTest {
         run(sentence).text(times(" ", 136) + body, -260);
         run(sentence).text(times(" ", 160), -260);
         run(sentence).text(times("1", 160), -100);
+        run(sentence).text("costs" + times(" ", 152) + "day", -260);
+        run(sentence).text(times(" ", 155) + "costs", -260);
+        run(sentence).text("costs" + times(" ", 151) + "9999", -260);
+        run(sentence).text("costs" + times(" ", 150) + "99999", -255);
+        run(sentence).text("costs" + times(" ", 154) + "d", -259);
         run(sentence).text("costs 1" + times("+1", 67) + TAIL + " ", 1)
                 .make("thing(0, 0, 100)", "force(1)")
                 .due("day(0, 1)", 68);
@@ -312,6 +319,29 @@ public final class BoundsOfTextsTest {
         fault(sentence, "costs nor 1;", 6);
         fault(sentence, "costs 1;crowds 1;minds 1;end", 25);
         fault(sentence, "costs " + times("a", 154), 6);
+        for (String ahead : new String[] {"", "costs ", "costs(", "costs 1 +", "costs 1 -", "costs -", "costs 1 *",
+            "costs 1 <", "costs not ", "costs 1 or ", "costs 1 and ", "costs 1 ", "costs (1) ", "costs ((1)", "costs day ",
+            "costs 1;", "costs 1;crowds ", "costs 1;crowds 1;", "costs 1;crowds 1;minds ", "costs 1;crowds 1;minds 1;"}) {
+            fault(sentence, ahead + "x", ahead.length());
+            fault(sentence, ahead + "x)" + TAIL, ahead.length());
+            fault(sentence, ahead + "10000", ahead.length());
+            fault(sentence, ahead + "@ 1" + TAIL, ahead.length());
+        }
+    }
+
+    private static void aWordWithOneLetterChanged() {
+        String sentence = "FAULT: a WORD that is neither KEY nor NAME, by one letter";
+        String text = "costs day+thing+many or period+rest+number;crowds not 1;minds 1 and 2;";
+        sound(sentence, text);
+        for (int i = 0; i < text.length(); i++) {
+            int word = i;
+            while (word > 0 && LETTERS.indexOf(text.charAt(word - 1)) >= 0) {
+                word--;
+            }
+            if (LETTERS.indexOf(text.charAt(i)) >= 0) {
+                fault(sentence, text.substring(0, i) + "q" + text.substring(i + 1), word);
+            }
+        }
     }
 
     private static void faultOfNumbers() {
@@ -400,6 +430,17 @@ public final class BoundsOfTextsTest {
         sound(sentence, "costs (((((1)))));crowds not not not not not 1;minds-----1;");
     }
 
+    private static void theDeepestText() {
+        String sentence = "5 of these open, and in each a number waits by or, and, =, -, *";
+        String step = "0or 1and 1=1-1*";
+        run(sentence).make("thing(0, 0, 100)")
+                .rule("costs " + times(step + "(", 5) + step + "1" + times(")", 5) + TAIL)
+                .due("day(0, 1)", 1);
+        run(sentence).make("thing(0, 0, 100)")
+                .rule("costs " + times(step + "(", 5) + step + "0" + times(")", 5) + TAIL)
+                .due("day(0, 1)", 0);
+    }
+
     private static void sixTexts() {
         Run run = run("There are 6 TEXTS at most, TEXT 0 with them").due("count(2)", 1);
         for (int i = 1; i <= 5; i++) {
@@ -443,6 +484,13 @@ public final class BoundsOfTextsTest {
                 .due("text()", -100)
                 .due("count(2)", 2)
                 .text("costs 2" + TAIL, 2);
+        run("text: by a FAULT nothing of it is left")
+                .make("thing(0, 0, 100)")
+                .text("costs 5+5 5", -110)
+                .text("costs 1" + times("+1", 67) + ";crowds 0;minds 0 ", -259)
+                .text("costs 7" + TAIL, 1)
+                .due("force(1)", 0)
+                .due("day(0, 1)", 7);
         run("text: a FAULT makes no TEXT, the texts stay as they were")
                 .make("thing(0, 0, 100)")
                 .rule("costs 5" + TAIL)

@@ -25,6 +25,7 @@ public final class BoundsOfThingsTest {
         daysWhat();
         whenFromOneOn();
         oftenOfDays();
+        callsUpTo512();
         CHECK.end();
     }
 
@@ -287,5 +288,17 @@ public final class BoundsOfThingsTest {
                 .due("often(1, 400)", 400)
                 .due("often(2, 399)", 6)
                 .due("often(2, 400)", 7);
+    }
+
+    private static void callsUpTo512() {
+        Run run = run("An object is used for at most 512 calls: all of them are answered");
+        for (int i = 0; i < 511; i++) {
+            run.due("set(0, 0, " + (i + 1) % 128 + ")", i % 128);
+        }
+        run.due("count(1)", 511 % 128);
+        Run faults = run("An object is used for at most 512 calls: by a FAULT each");
+        for (int i = 0; i < 256; i++) {
+            faults.due("feed(" + i + ")", 1).due("text()", i == 32 || i == 10 ? -101 : -100);
+        }
     }
 }
