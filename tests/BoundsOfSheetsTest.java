@@ -292,10 +292,8 @@ public final class BoundsOfSheetsTest {
         run("things: n of them (0 .. 6): none")
                 .lay(0, 1, 0, 0, 100)
                 .due("things(0, 1, 0, 0)", 0)
-                .due("things(0, 1, 3, 0)", 0)
                 .due("count(0)", 0)
                 .make("sheet(0, 1, 0)")
-                .due("things(0, 1, 0, 0)", 0)
                 .due("things(0, 1, 0, 1)", -12);
     }
 

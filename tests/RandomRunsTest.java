@@ -240,6 +240,9 @@ public final class RandomRunsTest {
             call("cell", sheet, 3 * i + 1, sometimes(dice.below(10), 10, -1));
             call("cell", sheet, 3 * i + 2, sometimes(sort == 0 ? dice.between(100, 160) : period() * 100 + 5, 99, 160));
         }
-        call("things", sheet, dice.oneIn(8) ? aSort() : sort, dice.oneOf(0, 0, 0, 3, 1, -1), sometimes(n, n + 1, 6, 7));
+        // The document does not tell what none of them from a place outside are.
+        int least = Math.max(n, 1);
+        call("things", sheet, dice.oneIn(8) ? aSort() : sort, dice.oneOf(0, 0, 0, 3, 1, -1),
+                sometimes(least, n + 1, 6, 7, -1));
     }
 }

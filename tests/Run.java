@@ -96,10 +96,10 @@ final class Run {
      */
     Run items(int sheet, int by, int sort, int... items) {
         int n = items.length;
-        due("things(" + sheet + ", " + sort + ", 0, 0)", 0);
         due("copy(" + sheet + ", " + n + ", " + sheet + ", " + n + ", 0)", 0);
         due("copy(" + sheet + ", " + (n + 1) + ", " + sheet + ", 0, 0)", -12);
         make("sheet(" + by + ", " + sort + ", 2)");
+        due("copy(" + sheet + ", 0, " + by + ", 0, 0)", 0);
         for (int i = 0; i < n; i++) {
             int own = items[i] == 0 ? 0 : 1;
             make("cell(" + by + ", " + (1 - own) + ", " + (own == 0 ? 1 : items[i] - 1) + ")");

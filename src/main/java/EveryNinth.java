@@ -21,16 +21,15 @@ public final class EveryNinth {
     private static final String FIRST_RULE = "costs 1 ; crowds many * many ; minds rest ;";
     private static final int COSTS_PART = 0, CROWDS_PART = 1, MINDS_PART = 2, PARTS = 3;
 
-    // Tokens; a sign is its own byte, and all signs stand above these. The keys of the parts
-    // follow one another as the parts do.
-    private static final int END = 0, BROKEN = 1, NUMERAL = 2, NAME = 3;
-    private static final int COSTS = 4, CROWDS = 5, MINDS = 6, OR = 7, AND = 8, NOT = 9;
-    private static final String SIGNS = "();+-*<=";
-
-    // Words: first the names, by which a row keeps what they stand for, then the keys.
+    // Words: first the names, by which a row keeps what they stand for, then the keys, those of the
+    // parts in the order of the parts.
     private static final int DAY_NAME = 0, THING_NAME = 1, MANY_NAME = 2;
     private static final int PERIOD_NAME = 3, REST_NAME = 4, NUMBER_NAME = 5, NAMES = 6;
-    private static final int KEYS = 6, WORDS = NAMES + KEYS;
+    private static final int COSTS = 6, CROWDS = 7, MINDS = 8, OR = 9, AND = 10, NOT = 11, WORDS = 12;
+
+    // Tokens: a key is its own word, a sign its own byte; the others are none of these.
+    private static final int END = 0, BROKEN = 1, NUMERAL = 2, NAME = 3;
+    private static final String SIGNS = "();+-*<=";
 
     // Steps of a read text: 0 and above a number, -1 down to -6 a name, below that what to do.
     private static final int FIRST_NAME_STEP = -1;
@@ -159,12 +158,12 @@ public final class EveryNinth {
         if (!rota.has(thing) || !isDay(day)) {
             return BAD;
         }
-        return nextComing(thing, day);
+        return nextComing(rota.things[thing], day);
     }
 
-    private int nextComing(int thing, int from) {
+    private int nextComing(Thing thing, int from) {
         for (int day = from; day < DAYS; day++) {
-            if (rota.things[thing].comes(day, rota.holidays)) {
+            if (thing.comes(day, rota.holidays)) {
                 return day;
             }
         }
@@ -226,8 +225,8 @@ public final class EveryNinth {
             return false;
         }
         meeting.start();
-        for (int i = 0; i < rota.size; i++) {
-            if (hasBit(set, i) && !meeting.takeIn(rota.things[i])) {
+        for (int i = 0; i < MOST_THINGS; i++) {
+            if (hasBit(set, i) && rota.has(i) && !meeting.takeIn(rota.things[i])) {
                 return false;
             }
         }
@@ -238,15 +237,18 @@ public final class EveryNinth {
         if (!rota.hasAll(set)) {
             return BAD;
         }
-        for (int lesser = 0; lesser < rota.size; lesser++) {
-            for (int other = lesser + 1; other < rota.size; other++) {
-                if (hasBit(set, lesser) && hasBit(set, other)
-                        && !rota.things[lesser].sharesDayWith(rota.things[other])) {
+        for (int lesser = 0; lesser < MOST_THINGS; lesser++) {
+            for (int other = lesser + 1; other < MOST_THINGS; other++) {
+                if (hasBit(set, lesser) && hasBit(set, other) && neverMeet(lesser, other)) {
                     return 10 * lesser + other;
                 }
             }
         }
         return NONE;
+    }
+
+    private boolean neverMeet(int lesser, int other) {
+        return rota.has(lesser) && rota.has(other) && !rota.things[lesser].sharesDayWith(rota.things[other]);
     }
 
     public long full(int part) {
@@ -255,10 +257,12 @@ public final class EveryNinth {
         }
         long above = 0;
         long below = 1;
-        for (int i = 0; i < rota.size; i++) {
-            int period = rota.things[i].period;
-            above = above * period + below;
-            below = below * period;
+        for (int i = 0; i < MOST_THINGS; i++) {
+            if (rota.has(i)) {
+                int period = rota.things[i].period;
+                above = above * period + below;
+                below = below * period;
+            }
         }
         return inLowestTerms(above, below, part);
     }
@@ -327,8 +331,8 @@ public final class EveryNinth {
 
     private int thingsOfPages() {
         int found = 0;
-        for (int i = 0; i < rota.size; i++) {
-            if (pages.isOf(rota.things[i], rota.holidays)) {
+        for (int i = 0; i < MOST_THINGS; i++) {
+            if (rota.has(i) && pages.isOf(rota.things[i], rota.holidays)) {
                 found |= 1 << i;
             }
         }
@@ -336,6 +340,9 @@ public final class EveryNinth {
     }
 
     private int kindsOfPages(int thing) {
+        if (!rota.has(thing)) {
+            return BAD;
+        }
         int found = 0;
         probe.become(rota.things[thing]);
         for (int kind = 0; kind < KINDS; kind++) {
@@ -360,12 +367,13 @@ public final class EveryNinth {
         }
         Sheet target = sheets[sheet];
         target.become(SHORTS, n);
+        Thing filmed = rota.things[thing];
         int found = 0;
-        int day = nextComing(thing, 0);
+        int day = nextComing(filmed, 0);
         while (found < n && day != NONE) {
             target.put(found, day);
             found++;
-            day = nextComing(thing, day + 1);
+            day = nextComing(filmed, day + 1);
         }
         target.size = found;
         return found;
@@ -753,8 +761,8 @@ public final class EveryNinth {
 
         int comers(int day, int onHolidays) {
             int set = 0;
-            for (int i = 0; i < size; i++) {
-                if (things[i].comes(day, onHolidays)) {
+            for (int i = 0; i < things.length; i++) {
+                if (has(i) && things[i].comes(day, onHolidays)) {
                     set |= 1 << i;
                 }
             }
@@ -999,7 +1007,7 @@ public final class EveryNinth {
             token = BROKEN;
             for (int word = 0; word < WORDS; word++) {
                 if (stands(spelling(word))) {
-                    token = word < NAMES ? NAME : keyOf(word);
+                    token = word < NAMES ? NAME : word;
                     value = word;
                 }
             }
@@ -1017,10 +1025,6 @@ public final class EveryNinth {
             return true;
         }
 
-        private static int keyOf(int word) {
-            return word - NAMES + COSTS;
-        }
-
         private static String spelling(int word) {
             switch (word) {
                 case DAY_NAME:
@@ -1035,13 +1039,6 @@ public final class EveryNinth {
                     return "rest";
                 case NUMBER_NAME:
                     return "number";
-                default:
-                    return keySpelling(keyOf(word));
-            }
-        }
-
-        private static String keySpelling(int key) {
-            switch (key) {
                 case COSTS:
                     return "costs";
                 case CROWDS:
@@ -1204,8 +1201,8 @@ public final class EveryNinth {
             Text rule = rule();
             reckoner.nameDay(day, many, restAhead(day));
             int costs = 0;
-            for (int i = 0; i < rota.size; i++) {
-                if (hasBit(set, i)) {
+            for (int i = 0; i < MOST_THINGS; i++) {
+                if (hasBit(set, i) && rota.has(i)) {
                     Thing thing = rota.things[i];
                     reckoner.nameThing(i, thing.period, thing.number);
                     costs += thing.spends(reckoner.tells(rule, COSTS_PART));
